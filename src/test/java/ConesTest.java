@@ -8,6 +8,9 @@ public final class ConesTest {
         inferred();
         votes();
         ranksChangeInRounds();
+        nineNeighbours();
+        askedAgain();
+        betweenTwoOfTheClique();
         noNeighbours();
         routesThatDoNotTell();
         cones();
@@ -130,6 +133,53 @@ public final class ConesTest {
         due.is("32: by the round 2", 32 + 64 + 128 + 256, () -> x.coneByPaths(6));
     }
 
+    private static void nineNeighbours() {
+        Pathwarden x = new Pathwarden();
+        for (int net = 1; net < 10; net++) {
+            route(x, net, 0);
+        }
+        due.is("29: the one with nine", 1 + 2, x::clique);
+        due.is("31: eight below it, one is its peer", 1023 - 2, () -> x.cone(0));
+        due.is("32: the same", 1023 - 2, () -> x.coneByPaths(0));
+    }
+
+    /** Questions asked before leave nothing behind, for the net 0 as for the others. */
+    private static void askedAgain() {
+        Pathwarden x = new Pathwarden();
+        route(x, 2, 1, 9);
+        route(x, 3, 1, 9);
+        route(x, 2, 9);
+        int first = route(x, 0, 6, 9);
+        due.is("29: 9, 1 and 2", 512 + 2 + 4, x::clique);
+        always(x, "0 below 6", Pathwarden.CUSTOMER, 0, 6);
+        x.withdraw(first);
+        always(x, "none of 6", Pathwarden.NOTHING, 0, 6);
+        int second = route(x, 6, 0, 9);
+        always(x, "0 above 6", Pathwarden.PROVIDER, 0, 6);
+        due.is("31: 6 below 0", 1 + 64, () -> x.cone(0));
+        due.is("31: 6 below 0 below 9", 512 + 1 + 64, () -> x.cone(9));
+        x.withdraw(second);
+        due.is("31: nothing below 0", 1, () -> x.cone(0));
+        due.is("29: still", 512 + 2 + 4, x::clique);
+        route(x, 0, 5, 9);
+        due.is("31: 0 below 5 below 9", 512 + 32 + 1, () -> x.cone(9));
+        due.is("31: 0 below 5", 32 + 1, () -> x.cone(5));
+    }
+
+    private static void betweenTwoOfTheClique() {
+        Pathwarden x = new Pathwarden();
+        route(x, 1, 5, 9);
+        route(x, 2, 1, 9);
+        route(x, 3, 1, 9);
+        route(x, 2, 9);
+        route(x, 9, 4);
+        due.is("29: 1, 9 and 2", 2 + 512 + 4, x::clique);
+        always(x, "the first of the clique is the top", Pathwarden.CUSTOMER, 5, 1);
+        always(x, "and all behind it go down", Pathwarden.CUSTOMER, 9, 5);
+        due.is("32: 5 is not ahead of 1", 2 + 8, () -> x.coneByPaths(1));
+        due.is("31: 5 is below 1, and 9 below 5", 2 + 8 + 32 + 512 + 16, () -> x.cone(1));
+    }
+
     private static void noNeighbours() {
         Pathwarden x = new Pathwarden();
         route(x, 3);
@@ -155,10 +205,10 @@ public final class ConesTest {
 
     private static void cones() {
         Pathwarden x = new Pathwarden();
+        route(x, 5, 6, 9);
         route(x, 2, 1, 9);
         route(x, 3, 1, 9);
         route(x, 2, 9);
-        route(x, 5, 6, 9);
         route(x, 4, 5, 9);
         due.is("29: 9, 1 and 2", 512 + 2 + 4, x::clique);
         due.is("31: customers of customers", 64 + 32 + 16, () -> x.cone(6));

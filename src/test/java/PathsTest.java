@@ -8,6 +8,7 @@ public final class PathsTest {
         downwards();
         downwardsVouchedOnBothSides();
         badVouchersAreSilent();
+        askedAgain();
         pathThrows();
         leak();
         stoppedByOrigin();
@@ -103,6 +104,29 @@ public final class PathsTest {
         due.is("24: revoked", Pathwarden.NOT_FOUND, () -> x.path(route, true));
     }
 
+    private static void askedAgain() {
+        Pathwarden x = new Pathwarden();
+        int zero = x.vouch(0, 0, 0, 100);
+        int nine = x.vouch(0, 9, 0, 100);
+        int up = route(x, 0, 1);
+        int back = route(x, 9, 1);
+        due.is("24: 0 denies", Pathwarden.INVALID, () -> x.path(up, true));
+        due.is("24: 9 denies", Pathwarden.INVALID, () -> x.path(back, true));
+        x.alter(zero, 2);
+        x.alter(nine, 2);
+        due.is("24: 0 is silent now", Pathwarden.NOT_FOUND, () -> x.path(up, true));
+        due.is("24: 9 is silent now", Pathwarden.NOT_FOUND, () -> x.path(back, true));
+        x.sign(zero);
+        x.sign(nine);
+        due.is("24: 0 vouches now", Pathwarden.VALID, () -> x.path(up, true));
+        x.alter(zero, 4);
+        x.alter(nine, 4);
+        x.sign(zero);
+        x.sign(nine);
+        due.is("24: 0 denies again", Pathwarden.INVALID, () -> x.path(up, true));
+        due.is("24: 9 denies again", Pathwarden.INVALID, () -> x.path(back, true));
+    }
+
     private static void pathThrows() {
         Pathwarden x = new Pathwarden();
         route(x, 1, 2);
@@ -138,6 +162,10 @@ public final class PathsTest {
         leaks(x, "no tie to the one behind", Pathwarden.NONE, 3, 2, 9);
         leaks(x, "back to the provider that it came from", 1, 2, 1, 2);
         leaks(x, "back to the customer that it came from", Pathwarden.NONE, 1, 2, 1);
+        x.tie(0, 2, Pathwarden.PROVIDER);
+        leaks(x, "nothing stands behind the last net", Pathwarden.NONE, 3, 2);
+        leaks(x, "nor behind the last of six", Pathwarden.NONE, 9, 9, 9, 9, 3, 2);
+        leaks(x, "of six nets", Pathwarden.NONE, 9, 8, 9, 8, 3, 2);
         leaks(x, "the first of two", 4, 3, 4, 2, 3);
         leaks(x, "the second place", 2, 9, 4, 2, 3);
         leaks(x, "the last place", 4, 9, 0, 1, 2, 4, 3);
@@ -222,6 +250,9 @@ public final class PathsTest {
         ways(x, "over the provider, and over its peer", 2, 1, 4);
         ways(x, "down from the peer, and over none", 1, 4, 3);
         x.tie(4, 5, Pathwarden.PEER);
+        ways(x, "not over the provider and back", 1, 3, 2);
+        x.tie(6, 1, Pathwarden.CUSTOMER);
+        ways(x, "not over 2 or 4 and back to 1", 1, 1, 6);
         ways(x, "two peers in turn are not allowed", 0, 2, 5);
         x.tie(4, 2, Pathwarden.NOTHING);
         ways(x, "the tie is gone", 0, 4, 3);
