@@ -1,18 +1,20 @@
 /** An object that holds all that it may hold: 8 holders, 50 objects, 24 routes of 6 nets, all ties. */
 public final class FullTest {
     private static final Due due = new Due("FullTest");
-    private static final Pathwarden x = new Pathwarden();
 
     public static void main(String[] args) {
-        fill();
-        holders();
-        objects();
-        routes();
-        relations();
+        Pathwarden signed = filled();
+        holders(signed);
+        objects(signed);
+        Pathwarden heard = filled();
+        routes(heard);
+        relations(heard);
         due.end();
     }
 
-    private static void fill() {
+    /** 280 calls; behind the 512th one of an object nothing is promised, so each half has one of its own. */
+    private static Pathwarden filled() {
+        Pathwarden x = new Pathwarden();
         for (int h = 1; h < 8; h++) {
             x.holder(h - 1);
             x.grant(h - 1, h, 0, 0, 1000);
@@ -32,9 +34,10 @@ public final class FullTest {
         for (int n = 0; n < 24; n++) {
             RoutesTest.route(x, 255, 8, 0, 1, 2, 3, 4, 5);
         }
+        return x;
     }
 
-    private static void holders() {
+    private static void holders(Pathwarden x) {
         due.fails("no ninth holder", Due.STATE, () -> x.holder(7));
         for (int h = 0; h < 8; h++) {
             int holder = h;
@@ -51,7 +54,7 @@ public final class FullTest {
         x.sign(0);
     }
 
-    private static void objects() {
+    private static void objects(Pathwarden x) {
         due.is("objects", 50, x::objects);
         due.is("the last one", Pathwarden.REVOKED, () -> x.judged(49));
         for (int n = 0; n < 49; n++) {
@@ -63,7 +66,7 @@ public final class FullTest {
         due.fails("no more objects", Due.STATE, () -> x.vouch(0, 0, 0, 0));
     }
 
-    private static void routes() {
+    private static void routes(Pathwarden x) {
         due.is("routes", 24, x::routes);
         for (int n = 0; n < 24; n++) {
             int route = n;
@@ -85,7 +88,7 @@ public final class FullTest {
         due.fails("no more routes", Due.STATE, () -> x.hear(0, 0));
     }
 
-    private static void relations() {
+    private static void relations(Pathwarden x) {
         due.is("clique: 1, then 2", 2 + 4, x::clique);
         for (int round = 0; round < 3; round++) {
             int r = round;

@@ -24,7 +24,7 @@ public final class ModelTest {
 
     private final Due due;
     private final Random random;
-    private final Pathwarden program = new Pathwarden();
+    private final Caller program = new Caller();
     private final Model model = new Model();
     private final int[] weights;
     private final int wrongOneIn;
@@ -48,7 +48,7 @@ public final class ModelTest {
     }
 
     private void run(long seed) {
-        for (int n = 0; n < 512 && due.allRight(); n++) {
+        for (int n = 0; n < Caller.MOST_CALLS && due.allRight(); n++) {
             boolean change = random.nextInt(100) < 60;
             String name = change ? someChange() : QUESTIONS[random.nextInt(QUESTIONS.length)];
             if (name.equals("falseAlarms") && random.nextInt(4) != 0) {
@@ -74,7 +74,7 @@ public final class ModelTest {
 
     private void compare(String where, String name, int[] a) {
         String what = where + ": " + name + java.util.Arrays.toString(a);
-        due.same(what, answer(() -> model.call(name, a)), answer(() -> call(name, a)));
+        due.same(what, answer(() -> model.call(name, a)), answer(() -> program.call(name, a)));
     }
 
     private static String answer(Due.Call call) {
@@ -108,11 +108,11 @@ public final class ModelTest {
     }
 
     private int object() {
-        return among(program.objects());
+        return among((int) model.call("objects"));
     }
 
     private int route() {
-        return among(program.routes());
+        return among((int) model.call("routes"));
     }
 
     private int length() {
@@ -165,49 +165,5 @@ public final class ModelTest {
         int issuer = holderNumber();
         int whom = random.nextInt(6) == 0 ? holderNumber() : issuer + 1 + random.nextInt(2);
         return new int[] {issuer, whom, value, length, days(1000)};
-    }
-
-    private long call(String name, int[] a) {
-        switch (name) {
-            case "holder": return program.holder(a[0]);
-            case "belong": return program.belong(a[0], a[1]);
-            case "roll": return program.roll(a[0]);
-            case "publish": return program.publish(a[0], a[1]);
-            case "pass": return program.pass(a[0]);
-            case "grant": return program.grant(a[0], a[1], a[2], a[3], a[4]);
-            case "origin": return program.origin(a[0], a[1], a[2], a[3], a[4], a[5]);
-            case "vouch": return program.vouch(a[0], a[1], a[2], a[3]);
-            case "revoke": return Due.bit(program.revoke(a[0]));
-            case "alter": return program.alter(a[0], a[1]);
-            case "sign": return program.sign(a[0]);
-            case "hop": return program.hop(a[0]);
-            case "hear": return program.hear(a[0], a[1]);
-            case "withdraw": return program.withdraw(a[0]);
-            case "tie": return program.tie(a[0], a[1], a[2]);
-            default: return ask(name, a);
-        }
-    }
-
-    private long ask(String name, int[] a) {
-        switch (name) {
-            case "today": return program.today();
-            case "objects": return program.objects();
-            case "judged": return program.judged(a[0]);
-            case "has": return Due.bit(program.has(a[0], a[1], a[2]));
-            case "hasByChains": return Due.bit(program.hasByChains(a[0], a[1], a[2]));
-            case "state": return program.state(a[0], a[1], a[2]);
-            case "routes": return program.routes();
-            case "path": return program.path(a[0], a[1] == 1);
-            case "leak": return program.leak(a[0]);
-            case "stopped": return program.stopped(a[0], a[1]);
-            case "allowed": return program.allowed(a[0], a[1]);
-            case "falseAlarms": return program.falseAlarms();
-            case "clique": return program.clique();
-            case "inferred": return program.inferred(a[0], a[1], a[2]);
-            case "cone": return program.cone(a[0]);
-            case "coneByPaths": return program.coneByPaths(a[0]);
-            case "addresses": return program.addresses(a[0]);
-            default: throw new AssertionError(name);
-        }
     }
 }
