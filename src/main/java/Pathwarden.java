@@ -3,8 +3,8 @@
  * paths of routes, the ties of nets, and the relations and cones that are inferred from paths.
  *
  * <p>A set of nets is an int in which net n counts 2 to the power of n. All rows are made once, in
- * constructors; no call makes an object, so that a long run of calls needs no more room than a new
- * Pathwarden.
+ * constructors; no call makes an object but an exception that it throws, so that a long run of calls
+ * needs hardly more room than a new Pathwarden.
  */
 public final class Pathwarden {
     public static final int NONE = -1;
@@ -355,7 +355,7 @@ public final class Pathwarden {
     private static void needBlock(int value, int length) {
         needRange(value, 0, ADDRESSES - 1);
         needRange(length, 0, BITS);
-        if (Blocks.firstBits(value, length) << (BITS - length) != value) {
+        if (Blocks.hasOthersThanFirstBits(value, length)) {
             throw new IllegalArgumentException("the value has others than its first bits");
         }
     }
@@ -393,12 +393,13 @@ public final class Pathwarden {
 
     /** What is asked of blocks, which are two numbers and no objects, so that calls make none. */
     private static final class Blocks {
-        static int firstBits(int value, int length) {
-            return value >> (BITS - length);
+        static boolean hasOthersThanFirstBits(int value, int length) {
+            return (value & (ADDRESSES - 1) >> length) != 0;
         }
 
         static boolean liesIn(int value, int length, int outerValue, int outerLength) {
-            return length >= outerLength && firstBits(value, outerLength) == firstBits(outerValue, outerLength);
+            int others = BITS - outerLength;
+            return length >= outerLength && value >> others == outerValue >> others;
         }
     }
 
@@ -466,18 +467,15 @@ public final class Pathwarden {
         }
 
         int signatureBy(int object, int key) {
-            int seal = 7919 * (101 * issuer[object] + 17 * key);
-            return (31 * digest(object) + seal) % MODULUS;
-        }
-
-        private int digest(int object) {
             int digest = mix(0, kind[object]);
             digest = mix(digest, issuer[object]);
             digest = mix(digest, whom[object]);
             digest = mix(digest, value[object]);
             digest = mix(digest, length[object]);
             digest = mix(digest, extra[object]);
-            return mix(digest, lastDay[object]);
+            digest = mix(digest, lastDay[object]);
+            int seal = 7919 * (101 * issuer[object] + 17 * key);
+            return (31 * digest + seal) % MODULUS;
         }
 
         private static int mix(int digest, int number) {
@@ -507,18 +505,14 @@ public final class Pathwarden {
          */
         void judgeAll() {
             for (int holder = 0; holder < registry.count; holder++) {
-                judgeGrantsTo(holder);
+                for (int object = 0; object < signed.count; object++) {
+                    if (isGrantTo(object, holder)) {
+                        verdict[object] = judgeOne(object);
+                    }
+                }
             }
             for (int object = 0; object < signed.count; object++) {
                 if (signed.kind[object] != GRANT) {
-                    verdict[object] = judgeOne(object);
-                }
-            }
-        }
-
-        private void judgeGrantsTo(int holder) {
-            for (int object = 0; object < signed.count; object++) {
-                if (isGrantTo(object, holder)) {
                     verdict[object] = judgeOne(object);
                 }
             }
@@ -591,28 +585,28 @@ public final class Pathwarden {
             return chainReaches(holder, value, length, 0);
         }
 
-        /**
-         * Whether some chain of grants goes from the holder up to the holder 0. What is above a grant
-         * does not hang on how it was reached, so one that was followed in vain is left out from then
-         * on: else the chains would be far too many.
-         */
+        /** Whether some chain of grants that have the block goes from the holder up to the holder 0. */
         private boolean chainReaches(int holder, int value, int length, int depth) {
-            if (holder == 0) {
-                return true;
-            }
             if (depth >= MOST_HOLDERS) {
                 return false;
             }
-            for (int object = 0; object < signed.count; object++) {
-                if (tried[object] || !isLinkTo(object, holder) || !signed.covers(object, value, length)) {
-                    continue;
-                }
-                tried[object] = true;
-                if (chainReaches(signed.issuer[object], signed.value[object], signed.length[object], depth + 1)) {
-                    return true;
-                }
+            boolean found = holder == 0;
+            for (int object = 0; object < signed.count && !found; object++) {
+                found = !tried[object]
+                        && isLinkTo(object, holder)
+                        && signed.covers(object, value, length)
+                        && leadsUp(object, depth);
             }
-            return false;
+            return found;
+        }
+
+        /**
+         * What is above a grant does not hang on how it was reached, so one that was followed in vain
+         * is left out from then on: else the chains would be far too many.
+         */
+        private boolean leadsUp(int object, int depth) {
+            tried[object] = true;
+            return chainReaches(signed.issuer[object], signed.value[object], signed.length[object], depth + 1);
         }
 
         private boolean isLinkTo(int object, int holder) {
@@ -740,8 +734,8 @@ public final class Pathwarden {
     /** Judges paths by the good vouchers, which it is told ahead of that. */
     private static final class PathJudge {
         private final Ties ties;
-        private final boolean[] hasVoucher = new boolean[NETS];
-        private final int[] providers = new int[NETS];
+        private final int[] vouchedFor = new int[NETS];
+        private final int[] notDenied = new int[NETS];
 
         PathJudge(Ties ties) {
             this.ties = ties;
@@ -749,31 +743,31 @@ public final class Pathwarden {
 
         void forgetVouchers() {
             for (int net = 0; net < NETS; net++) {
-                hasVoucher[net] = false;
-                providers[net] = 0;
+                vouchedFor[net] = 0;
+                notDenied[net] = ALL_NETS;
             }
         }
 
         void addVoucher(int net, int itsProviders) {
-            hasVoucher[net] = true;
-            providers[net] |= itsProviders;
+            vouchedFor[net] |= itsProviders;
+            notDenied[net] = vouchedFor[net];
         }
 
         int judgeUp(int[] path, int size) {
-            if (RouteBook.runsRound(path, size) || netsUp(path, size, false) < size) {
+            if (RouteBook.runsRound(path, size) || netsUp(path, size, notDenied) < size) {
                 return INVALID;
             }
-            return netsUp(path, size, true) == size ? VALID : NOT_FOUND;
+            return netsUp(path, size, vouchedFor) == size ? VALID : NOT_FOUND;
         }
 
         int judgeDown(int[] path, int size) {
             if (RouteBook.runsRound(path, size)) {
                 return INVALID;
             }
-            if (netsUp(path, size, false) + netsBack(path, size, false) < size) {
+            if (netsUp(path, size, notDenied) + netsBack(path, size, notDenied) < size) {
                 return INVALID;
             }
-            return netsUp(path, size, true) + netsBack(path, size, true) >= size ? VALID : NOT_FOUND;
+            return netsUp(path, size, vouchedFor) + netsBack(path, size, vouchedFor) >= size ? VALID : NOT_FOUND;
         }
 
         /** Whether the net at a place behind the first one refuses what is ahead of it, blocks left aside. */
@@ -782,25 +776,21 @@ public final class Pathwarden {
             return (fromProvider ? judgeDown(path, place) : judgeUp(path, place)) == INVALID;
         }
 
-        private int netsUp(int[] path, int size, boolean vouchedOnly) {
+        /** How many nets are reached from the first one on by steps that the nets' sets have. */
+        private static int netsUp(int[] path, int size, int[] steps) {
             int nets = 1;
-            while (nets < size && goesOn(path[nets - 1], path[nets], vouchedOnly)) {
+            while (nets < size && isIn(steps[path[nets - 1]], path[nets])) {
                 nets++;
             }
             return nets;
         }
 
-        private int netsBack(int[] path, int size, boolean vouchedOnly) {
+        private static int netsBack(int[] path, int size, int[] steps) {
             int nets = 1;
-            while (nets < size && goesOn(path[size - nets], path[size - nets - 1], vouchedOnly)) {
+            while (nets < size && isIn(steps[path[size - nets]], path[size - nets - 1])) {
                 nets++;
             }
             return nets;
-        }
-
-        private boolean goesOn(int net, int next, boolean vouchedOnly) {
-            boolean vouches = isIn(providers[net], next);
-            return vouches || !vouchedOnly && !hasVoucher[net];
         }
     }
 
@@ -839,16 +829,18 @@ public final class Pathwarden {
             }
             int found = 0;
             for (int next = 0; next < NETS; next++) {
-                if (isIn(seen, next) || !mayGoOn(size, next)) {
-                    continue;
+                if (!isIn(seen, next) && mayGoOn(size, next)) {
+                    found += countOver(next, size, seen, end);
                 }
-                trail[size] = next;
-                if (end == NONE ? pathJudge.isRefusedAt(trail, size) : next == end) {
-                    found++;
-                }
-                found += countOnwards(size + 1, seen | 1 << next, end);
             }
             return found;
+        }
+
+        /** Counts those of these paths that go on with a net. */
+        private int countOver(int next, int size, int seen, int end) {
+            trail[size] = next;
+            boolean counts = end == NONE ? pathJudge.isRefusedAt(trail, size) : next == end;
+            return (counts ? 1 : 0) + countOnwards(size + 1, seen | 1 << next, end);
         }
 
         private boolean mayGoOn(int size, int next) {
