@@ -8,6 +8,7 @@ public final class BlocksTest {
         hasThrows();
         longChain();
         veryManyChains();
+        oneChainInVain();
         state();
         stateOfSeveral();
         stateThrows();
@@ -67,6 +68,18 @@ public final class BlocksTest {
         both(x, "one half", true, 1, 0, 1);
         both(x, "the other half", true, 1, 128, 1);
         both(x, "both halves", false, 1, 0, 0);
+    }
+
+    /** The wider grant to the holder 2 comes first, and leads to a grant that is too narrow for it alone. */
+    private static void oneChainInVain() {
+        Pathwarden x = new Pathwarden();
+        x.holder(0);
+        x.holder(1);
+        x.grant(0, 1, 192, 2, 10);
+        x.grant(1, 2, 128, 1, 10);
+        both(x, "the first chain ends in vain", false, 2, 192, 2);
+        x.grant(1, 2, 192, 2, 10);
+        both(x, "the second chain goes over the same grant", true, 2, 192, 2);
     }
 
     private static void hasThrows() {

@@ -85,6 +85,10 @@ final class BoundsOfBlocks {
         s.is(many.then("roll 0", "sign 6"), "hasByChains 7 0 0", 1);
         s.is(many.then("roll 6", "sign 48"), "hasByChains 7 255 8", 1);
         s.is(many.then("roll 6"), "hasByChains 7 255 8", 0);
+        s.is(NEW.then("holder 0").times(50, "grant 1 1 0 0 99"), "hasByChains 1 0 0", 0);
+        Run vain = NEW.then("holder 0", "holder 1", "grant 0 1 192 2 99", "grant 1 2 128 1 99");
+        s.is(vain, "hasByChains 2 192 2", 0);
+        s.is(vain.then("grant 1 2 192 2 99"), "hasByChains 2 192 2", 1);
     }
 
     private void state() {
