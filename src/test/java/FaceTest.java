@@ -1,13 +1,19 @@
+import java.io.IOException;
 import java.lang.reflect.Constructor;
 import java.lang.reflect.Field;
 import java.lang.reflect.Method;
 import java.lang.reflect.Modifier;
+import java.nio.file.Files;
+import java.nio.file.Path;
 import java.util.ArrayList;
 import java.util.List;
 import java.util.Set;
 import java.util.TreeSet;
 
-/** The public face: its constants, its constructor, its methods with their throws clauses, and no other. */
+/**
+ * The public face: its constants, its constructor, its methods with their throws clauses, and no other.
+ * Runs in the project's folder.
+ */
 public final class FaceTest {
     private static final String I = "IndexOutOfBoundsException", A = "IllegalArgumentException", S = "IllegalStateException";
 
@@ -52,7 +58,7 @@ public final class FaceTest {
         "NOT_FOUND 0", "VALID 1", "INVALID 2", "NOTHING 0", "CUSTOMER 1", "PROVIDER 2", "PEER 3",
     };
 
-    public static void main(String[] args) throws IllegalAccessException {
+    public static void main(String[] args) throws IllegalAccessException, IOException {
         Due due = new Due("FaceTest");
         due.same("the methods", new TreeSet<>(List.of(METHODS)), methods());
         due.same("the constants", new TreeSet<>(List.of(CONSTANTS)), constants());
@@ -64,6 +70,7 @@ public final class FaceTest {
             due.same(inside + " is seen outside", false, Modifier.isPublic(how) || Modifier.isProtected(how));
         }
         noNameTwice(due);
+        due.same("the face as the document writes it", promised(), written());
         due.end();
     }
 
@@ -106,6 +113,36 @@ public final class FaceTest {
             found.add(constructor.toString());
         }
         return found;
+    }
+
+    private static List<String> promised() throws IOException {
+        List<String> found = new ArrayList<>();
+        for (String line : Files.readAllLines(Path.of("../shared/DOC.md"))) {
+            if (line.startsWith("    public ") && line.endsWith(");") || line.matches("    public .* throws .*;")) {
+                found.add(line.substring(4, line.length() - 1));
+            }
+        }
+        return found;
+    }
+
+    /** With the names of the parameters, which a compiled class does not keep. */
+    private static List<String> written() throws IOException {
+        List<String> found = new ArrayList<>();
+        new Source(Path.of("src/main/java/Pathwarden.java")).methods().forEach((method, tree) -> {
+            if (method.getModifiers().contains(javax.lang.model.element.Modifier.PUBLIC)) {
+                boolean isConstructor = tree.getReturnType() == null;
+                StringBuilder text = new StringBuilder("public ");
+                text.append(isConstructor ? "Pathwarden" : tree.getReturnType() + " " + tree.getName());
+                text.append("(").append(listed(tree.getParameters())).append(")");
+                text.append(tree.getThrows().isEmpty() ? "" : " throws " + listed(tree.getThrows()));
+                found.add(text.toString());
+            }
+        });
+        return found;
+    }
+
+    private static String listed(List<?> parts) {
+        return String.join(", ", parts.stream().map(String::valueOf).toList());
     }
 
     private static void noNameTwice(Due due) {

@@ -1,5 +1,6 @@
 import com.sun.source.tree.CompilationUnitTree;
 import com.sun.source.tree.MethodTree;
+import com.sun.source.tree.StatementTree;
 import com.sun.source.tree.Tree;
 import com.sun.source.util.JavacTask;
 import com.sun.source.util.TreePath;
@@ -77,8 +78,8 @@ final class Source {
 
     /** The compiler adds constructors, and calls of those above them, which have no end in the file. */
     private boolean isWritten(Tree tree) {
-        return trees.getSourcePositions().getEndPosition(unit, tree) >= 0 || !(tree instanceof MethodTree)
-                && tree.getKind() != Tree.Kind.METHOD_INVOCATION && tree.getKind() != Tree.Kind.EXPRESSION_STATEMENT;
+        boolean mayBeAdded = tree instanceof MethodTree || tree instanceof StatementTree;
+        return !mayBeAdded || trees.getSourcePositions().getEndPosition(unit, tree) >= 0;
     }
 
     List<Part> parts() {
